@@ -833,21 +833,24 @@ public final class DeepiceWatch {
         void find(ArrayList<Pulse> inOrder) {
             good.clear();
             for (int i = 0; i < inOrder.size(); i++) {
-                if (inOrder.get(i).eye.state == 'g') {
-                    good.add(inOrder.get(i));
+                Pulse pulse = inOrder.get(i);
+                if (pulse.eye.state == 'g') {
+                    good.add(pulse);
                 }
             }
             count = 0;
+            int end = 0;
             for (int i = 0; i < good.size(); i++) {
-                int end = endOfWindow(i);
+                end = endOfWindow(i, end);
                 if (unlikeEyes(i, end) >= leastEyes) {
                     join(i, end);
                 }
             }
         }
 
-        private int endOfWindow(int from) {
-            int end = from;
+        /** Ticks never fall, so the end of a window is not before that of the window ahead of it. */
+        private int endOfWindow(int from, int endAhead) {
+            int end = Math.max(from, endAhead);
             while (end + 1 < good.size() && good.get(end + 1).tick <= good.get(from).tick + window) {
                 end++;
             }
@@ -925,7 +928,8 @@ public final class DeepiceWatch {
             if (one.partnered && other.partnered || one.eye == other.eye) {
                 return;
             }
-            if (one.eye.place.distanceTo(other.eye.place) <= reach) {
+            // A distance is cut, so it is at most the reach as long as the square is below that of one more.
+            if (one.eye.place.squareTo(other.eye.place) < (reach + 1) * (reach + 1)) {
                 one.partnered = true;
                 other.partnered = true;
             }

@@ -12,6 +12,7 @@ public final class ClockTest {
         pulsesAndWipe();
         pulseAt();
         pulsesInOrder();
+        pulsesThatComeTogether();
         mendedPulses();
         Check.end();
     }
@@ -143,6 +144,21 @@ public final class ClockTest {
         Check.same("20: then as they came, 3", w.pulseAt(3, 'q'), 255);
         Check.same("20: the other eye", w.pulseAt(4, 'e'), 1);
         Check.same("20: at the same tick", w.pulseAt(4, 't'), 500);
+    }
+
+    /** Own ticks of 113 and 112 are mended to 111 both, by 1000 / 1009. */
+    private static void pulsesThatComeTogether() {
+        DeepiceWatch w = withEyes(10);
+        w.flash(0, 0, 10, 1, 113);
+        w.flash(0, 0, 13, 1, 82);
+        Check.same("20: apart, by own ticks", w.pulseAt(0, 'q'), 85);
+        w.setClock(0, 0, 9999);
+        w.call(0, 0);
+        w.call(0, 1000);
+        Check.same("20: one tick", w.pulseAt(0, 't'), 111);
+        Check.same("20: the same tick", w.pulseAt(1, 't'), 111);
+        Check.same("20: as they came", w.pulseAt(0, 'q'), 255);
+        Check.same("20: as they came", w.pulseAt(1, 'q'), 85);
     }
 
     private static void mendedPulses() {

@@ -15,6 +15,7 @@ public final class EventTest {
         mendedEvents();
         eventAt();
         partners();
+        partnersAtFirst();
         places();
         placesBelowZero();
         speeds();
@@ -22,6 +23,7 @@ public final class EventTest {
         kinds();
         kindByAllAxes();
         energies();
+        energyIsAThousandthCut();
         vetoes();
         Check.end();
     }
@@ -209,6 +211,24 @@ public final class EventTest {
         Check.same("25: a partner is one of the same event", two.eventAt(0, 'k') + two.eventAt(1, 'k'), 0);
     }
 
+    private static void partnersAtFirst() {
+        DeepiceWatch w = withEyes();
+        w.setTrigger(2, 1000);
+        light(w, 0, 0);
+        light(w, 2, 301);
+        Check.same("25: 301 apart is too late", w.eventAt(0, 'k'), 0);
+        light(w, 2, 300);
+        Check.same("25: 300 apart is not", w.eventAt(0, 'k'), 2);
+        DeepiceWatch far = new DeepiceWatch();
+        far.addString(0, 0);
+        far.addEye(0, 0);
+        far.addEye(0, 21);
+        far.setTrigger(2, 1000);
+        light(far, 0, 0);
+        far.flash(0, 0, 21, 1, 0);
+        Check.same("25: 21 away is too far", far.eventAt(0, 'k'), 0);
+    }
+
     private static void places() {
         DeepiceWatch w = withEyes();
         w.setTrigger(2, 200);
@@ -362,6 +382,29 @@ public final class EventTest {
         Check.same("29: from 17, not 17.5: 85 times 50 and 255 times 10", cut.energyOf(0), 6);
     }
 
+    /** Two eyes at one place, so that the sum is that of charges: 999 first, then 1000. */
+    private static void energyIsAThousandthCut() {
+        DeepiceWatch w = new DeepiceWatch();
+        w.addString(0, 0);
+        w.addEye(0, 10);
+        w.addEye(0, 10);
+        w.setTrigger(2, 500);
+        int[][] away = {{0, 0, 0, 2, 5, 7, 7}, {0, 0, 2, 2, 3, 5, 6}};
+        for (int i = 0; i < 2; i++) {
+            w.wipe();
+            w.setEye(1, 'd');
+            for (int z : away[i]) {
+                w.setEye(0, w.pulses() == 6 ? 'd' : 'g');
+                w.setEye(1, w.pulses() == 6 ? 'g' : 'd');
+                Check.same("a pulse", w.flash(0, 0, 10 + z, 1, 1000), 1);
+            }
+            w.setEye(0, 'g');
+            Check.same("25: all are kept", w.eventAt(0, 'k'), 7);
+            Check.same("25: charge", w.eventAt(0, 'q'), 999 + i);
+            Check.same("29: a thousandth, cut", w.energyOf(0), i);
+        }
+    }
+
     private static void vetoes() {
         DeepiceWatch w = withEyes();
         w.addString(9, 0);
@@ -392,6 +435,32 @@ public final class EventTest {
         Check.thrown("30: no such event", INDEX, () -> w.isVetoed(1));
         Check.thrown("30: below 0", INDEX, () -> w.isVetoed(-1));
         firstPulseNotKept();
+        slowlyDown();
+    }
+
+    /** A fast track along x; the charge of 3 at (0, 0, 31), 25 ticks late, makes a speed of 1.47 down. */
+    private static void slowlyDown() {
+        DeepiceWatch w = new DeepiceWatch();
+        for (int i = -1; i <= 1; i++) {
+            w.addString(10 * i, 0);
+            w.addEye(i + 1, 30);
+        }
+        w.addEye(1, 31);
+        w.setTrigger(4, 300);
+        w.flash(-10, 0, 30, 1, 1000);
+        w.flash(10, 0, 30, 1, 1200);
+        w.setEye(3, 'd');
+        w.flash(0, 0, 30, 1, 1100);
+        w.setEye(3, 'g');
+        w.flash(0, 0, 40, 1, 1125 - 98);
+        Check.same("27: x", w.speedOf(0, 'x'), 9996);
+        Check.same("27: z", w.speedOf(0, 'z'), 1);
+        Check.same("28: a track", w.kindOf(0), 't');
+        Check.same("30: 1 is down", w.isVetoed(0), true);
+        w.setTrigger(3, 300);
+        w.setEye(3, 'l');
+        Check.same("27: without that one", w.speedOf(0, 'z'), 0);
+        Check.same("30: 0 is not down", w.isVetoed(0), false);
     }
 
     private static void firstPulseNotKept() {

@@ -174,6 +174,12 @@ public final class LightTest {
         Check.same("13: 0 from 19, 9 from 20", w.pass(0, 0, 19, DOWN, 1, 1, 100), 1);
         Check.same("13: the charge", w.pulseAt(0, 'q'), 9);
         Check.same("13: what has no charge does not come", w.pulseAt(0, 't'), 215);
+        w.wipe();
+        w.setLayer(0, 0, 20);
+        w.setLayer(15, 99, 0);
+        w.pass(0, 0, 20, UP, 1, 1, 100);
+        Check.same("13: 9 from 20, 0 from 19", w.pulseAt(0, 'q'), 9);
+        Check.same("13: nor does what would be earlier", w.pulseAt(0, 't'), 299);
         w.setEye(0, 'd');
         Check.same("13: none of a dead eye", w.pass(0, 0, 10, DOWN, 1, 1, 0), 0);
         w.setEye(0, 'l');

@@ -13,6 +13,7 @@ public final class SkyTest {
         vote();
         look();
         bins();
+        binsOfSlowSpeeds();
         binsLeaveOut();
         claim();
         claimShare();
@@ -127,6 +128,33 @@ public final class SkyTest {
         Check.same("32: all three down", slanted.look(0), 1);
     }
 
+    /** A fast track up; the charge of 3 at -1 on x or y, 25 ticks late, makes a speed of -1.47 there. */
+    private static void binsOfSlowSpeeds() {
+        int[] bins = {2, 4};
+        for (int axis = 0; axis < 2; axis++) {
+            int x = axis == 0 ? -1 : 0;
+            int y = axis == 1 ? -1 : 0;
+            DeepiceWatch w = new DeepiceWatch();
+            w.addString(0, 0);
+            w.addString(x, y);
+            for (int i = 1; i <= 3; i++) {
+                w.addEye(0, 10 * i);
+            }
+            w.addEye(1, 20);
+            w.setTrigger(3, 300);
+            w.vote(1, 0);
+            w.setEye(3, 'd');
+            for (int i = 1; i <= 3; i++) {
+                w.flash(0, 0, 10 * i, 1, 1300 - 100 * i);
+            }
+            Check.same("32: without that one", w.look(6), 1);
+            w.setEye(3, 'g');
+            Check.same("a pulse", w.flash(10 * x, 10 * y, 20, 1, 1125 - 98), 1);
+            Check.same("27: -1", w.speedOf(0, axis == 0 ? 'x' : 'y'), -1);
+            Check.same("32: -1 is below 0", w.look(bins[axis]), 1);
+        }
+    }
+
     private static void binsLeaveOut() {
         DeepiceWatch w = withEyes();
         w.vote(1, 0);
@@ -192,6 +220,12 @@ public final class SkyTest {
         Check.same("33: 3 of 7", w.claim(3), true);
         Check.same("33: 3 of 7, too", w.claim(7), true);
         Check.same("33: 1 of 7", w.claim(6), false);
+        w.takeBack(3);
+        track(w, 0, -1, 0);
+        Check.same("33: 3 of 8, 24 are at least 24", w.claim(3), true);
+        w.takeBack(3);
+        track(w, 0, -1, 0);
+        Check.same("33: 3 of 9", w.claim(3), false);
     }
 
     private static void claimNeedsTwo() {
