@@ -227,6 +227,14 @@ public final class EventTest {
         light(far, 0, 0);
         far.flash(0, 0, 21, 1, 0);
         Check.same("25: 21 away is too far", far.eventAt(0, 'k'), 0);
+        far.addString(6, 2);
+        far.addEye(1, 20);
+        far.wipe();
+        far.setEye(1, 'd');
+        light(far, 0, 0);
+        Check.same("a pulse", far.flash(6, 2, 20, 1, 0), 1);
+        Check.same("6: the root of 440 is cut", far.distance(0, 2), 20);
+        Check.same("25: 20.97 away is not", far.eventAt(0, 'k'), 2);
     }
 
     private static void places() {
