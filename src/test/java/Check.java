@@ -26,6 +26,10 @@ final class Check {
         tell(got == due, what + " answered " + got + ", due is " + due);
     }
 
+    static void alike(String what, Object got, Object due) {
+        tell(String.valueOf(got).equals(String.valueOf(due)), what + " answered " + got + ", due is " + due);
+    }
+
     static void holds(String what, boolean so) {
         tell(so, what);
     }
