@@ -49,7 +49,8 @@ public final class FigureTest {
             w.noise(30);
         }
         long due = 7;
-        for (int i = 0; i < w.pulses(); i++) {
+        int pulses = w.pulses();
+        for (int i = 0; i < pulses; i++) {
             due = 31 * (31 * due + w.pulseAt(i, 't')) + w.pulseAt(i, 'q');
         }
         due = 31 * (31 * (31 * due + w.events()) + 2) + 1;

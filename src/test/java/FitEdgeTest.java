@@ -74,6 +74,10 @@ public final class FitEdgeTest {
         Watches.light(w, 2, 101);
         Check.same("27: 100.75 is 100: 255 * 250 / 255", w.speedOf(0, 'z'), 250000);
         w.wipe();
+        Watches.light(w, 1, 100);
+        Check.same("a pulse of charge 1", w.flash(9, 0, 24, 1, 355 - 98), 1);
+        Check.same("27: 100 and 255 / 256 is 100: 255 * 997 / 255 / 255", w.speedOf(0, 'z'), 3909);
+        w.wipe();
         w.setClock(1, -9999, 0);
         w.setClock(2, -9968, 0);
         Watches.dim(w, 1, 30);
@@ -267,10 +271,45 @@ public final class FitEdgeTest {
             w.setLayer(0, 10, 20);
             Check.same("29: 556521", w.energyOf(0), 556);
         }
+        wholePlaces();
         DeepiceWatch half = Watches.two(1, 1, 63, 0);
         half.setLayer(0, 10, 0);
         Check.same("26: half of 63", half.placeOf(0, 'z'), 3150);
         Check.same("29: from (0, 0, 31): 255 * 962 and 255 * 1027", half.energyOf(0), (255 * 962 + 255 * 1027) / 1000);
+    }
+
+    /**
+     * In the murkiest ice. Of 10 it is 5, and twice 255 * 26 = 6630 become 20228 by five times. Four pulses of 255 at 6
+     * and of 1 at 4 have a mean of 5.99, which is 5: 255 * 2 = 510 is 637 and 2 is 2.
+     */
+    private static void wholePlaces() {
+        for (int axis = 0; axis < 3; axis++) {
+            int[] on = {0, 0, 0};
+            on[axis] = 1;
+            DeepiceWatch whole = Watches.two(10 * on[0], 10 * on[1], 10 * on[2], 0);
+            Check.same("26: whole", whole.placeOf(0, "xyz".charAt(axis)), 500);
+            whole.setLayer(0, 10, 20);
+            Check.same("29: from 5", whole.energyOf(0), 40);
+            DeepiceWatch w = new DeepiceWatch();
+            w.addEye(w.addString(6 * on[0], 6 * on[1]), 6 * on[2]);
+            w.addEye(w.addString(4 * on[0], 4 * on[1]), 4 * on[2]);
+            w.setTrigger(2, 500);
+            for (int i = 0; i < 4; i++) {
+                w.setEye(1, 'd');
+                w.flash(6 * on[0], 6 * on[1], 6 * on[2], 1, 1000);
+                w.setEye(1, 'g');
+                w.setEye(0, 'd');
+                int x = 4 * on[0] + (axis == 0 ? 0 : 9);
+                int y = 4 * on[1] + (axis == 1 ? 0 : axis == 0 ? 9 : 4);
+                int z = 4 * on[2] + (axis == 2 ? 0 : 4);
+                Check.same("a pulse of charge 1", w.flash(x, y, z, 1, 1000), 1);
+                w.setEye(0, 'g');
+            }
+            Check.same("25: charge", w.eventAt(0, 'q'), 1024);
+            Check.same("26: 6 less 2 / 256", w.placeOf(0, "xyz".charAt(axis)), 599);
+            w.setLayer(0, 10, 20);
+            Check.same("29: from 5, four times 639", w.energyOf(0), 2);
+        }
     }
 
     private static void energyDividedBy() {
@@ -298,7 +337,7 @@ public final class FitEdgeTest {
 
     /** 9 pulses of charge 1 on each side, 10 from the mean place: 101, 106, 111 .. 163 by cuts, 168.7 without. */
     private static void energyIsCutEachTime() {
-        Edges.sentence("Terms", "divided by 100 less the hundredths that are eaten, cut each time. An event is vetoed");
+        Edges.sentence("Terms", "divided by 100 less the hundredths that are eaten, cut each time.");
         DeepiceWatch w = Watches.eyeAt(0, 0, 10);
         w.addEye(0, 30);
         w.setTrigger(2, 500);

@@ -30,6 +30,7 @@ public final class RangeTest {
         flash();
         pass();
         passStep();
+        passEachStep();
         passNoStep();
         noise();
         seed();
@@ -227,6 +228,26 @@ public final class RangeTest {
         promise = 13;
         range("`step`: 25 times the step in x and 2, and 5 times that in y and 2, and that in z and 2", 0, LAST_STEP,
                 () -> Watches.clearEyeAt(0, 0, 30), (w, step) -> charge(w, w.pass(4, 4, 34, step, 1, 1, 0)), 96, 29);
+    }
+
+    /** All of them, from (4, 5, 7) off, where it is 1000 / 91. */
+    private static void passEachStep() {
+        Edges.sentence("Promise 13", "25 times the step in x and 2, and 5 times that in y and 2, and that in z and 2");
+        DeepiceWatch w = Watches.clearEyeAt(0, 0, 30);
+        int step = 0;
+        for (int x = -2; x <= 2; x++) {
+            for (int y = -2; y <= 2; y++) {
+                for (int z = -2; z <= 2; z++) {
+                    if (step != 62) {
+                        int square = (4 + x) * (4 + x) + (5 + y) * (5 + y) + (7 + z) * (7 + z);
+                        w.pass(4, 5, 37, step, 1, 1, 0);
+                        Check.same("13: step " + step, w.pulseAt(0, 'q'), 10 + 1000 / (1 + square));
+                        w.wipe();
+                    }
+                    step++;
+                }
+            }
+        }
     }
 
     private static void passNoStep() {

@@ -33,6 +33,7 @@ public final class SkyEdgeTest {
             Watches.track(w, bin, 0);
             for (int other = 0; other < 8; other++) {
                 Check.same("32: a track of bin " + bin + " in " + other, w.look(other), bin == other ? 1 : 0);
+                Check.same("32: as before, in " + other, w.look(other), bin == other ? 1 : 0);
             }
         }
         DeepiceWatch w = Watches.cube();
@@ -67,6 +68,10 @@ public final class SkyEdgeTest {
         w.setPartner(13, 300);
         Check.same("32: without pulses kept", w.look(7), 0);
         w.setPartner(20, 300);
+        w.setTrigger(4, 300);
+        Check.same("32: no event any more", w.look(7), 0);
+        w.setTrigger(3, 300);
+        Check.same("32: again one", w.look(7), 1);
         w.wipe();
         Check.same("32: of now", w.look(7), 0);
         Watches.track(w, 7, 0);
@@ -216,6 +221,14 @@ public final class SkyEdgeTest {
         Check.same("33: 2 of 6", w.claim(0), false);
         w.setOuter(1, true);
         Check.same("33: vetoed ones are in no bin: 2 of 2", w.claim(0), true);
+        w.takeBack(0);
+        for (int ball = 0; ball < 5; ball++) {
+            for (int i = -1; i <= 1; i++) {
+                w.flash(10 * i, 10 * i, 30, 1, 20000 + 1000 * ball);
+            }
+        }
+        Check.same("24: with five balls", w.events(), 11);
+        Check.same("33: nor are balls: 2 of 2", w.claim(0), true);
     }
 
     private static void claimNamesTrials() {
