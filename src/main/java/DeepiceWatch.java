@@ -859,7 +859,7 @@ public final class DeepiceWatch {
 
         int unlikeEyes(int from, int to) {
             int seen = 0;
-            for (int i = from; i <= to && i < good.size(); i++) {
+            for (int i = Math.max(from, 0); i <= to && i < good.size(); i++) {
                 seen |= 1 << good.get(i).eye.number;
             }
             return Integer.bitCount(seen);
@@ -905,14 +905,14 @@ public final class DeepiceWatch {
 
         long chargesOf(int event) {
             long sum = 0;
-            for (int i = firstOf(event); i <= lastOf(event) && i < good.size(); i++) {
+            for (int i = Math.max(firstOf(event), 0); i <= lastOf(event) && i < good.size(); i++) {
                 sum += good.get(i).charge;
             }
             return sum;
         }
 
         void markPartners(int event) {
-            int from = firstOf(event);
+            int from = Math.max(firstOf(event), 0);
             int to = Math.min(lastOf(event), good.size() - 1);
             for (int i = from; i <= to; i++) {
                 good.get(i).partnered = false;

@@ -22,11 +22,11 @@ public final class ClockEdgeTest {
         orderAsTheyCame();
         noPulses();
         wipeNone();
-        Edges.end();
+        Sentences.end();
     }
 
     private static void noClockAtFirst() {
-        Edges.sentence("Terms", "An eye's own tick is the true one plus an offset, 0 at first");
+        Sentences.of("Terms", "An eye's own tick is the true one plus an offset, 0 at first");
         DeepiceWatch w = Watches.grid();
         Check.same("17: no offset", w.call(0, 0), 0);
         Check.same("17: no drift", w.call(0, 999999), 999999);
@@ -41,7 +41,7 @@ public final class ClockEdgeTest {
 
     /** By a drift of d millionths 500000 ticks are d / 2 more. */
     private static void ownTickIsCut() {
-        Edges.sentence("Terms", "the true one times a drift, in millionths, 0 at first, divided by 1000000, cut toward 0");
+        Sentences.of("Terms", "the true one times a drift, in millionths, 0 at first, divided by 1000000, cut toward 0");
         int[] drifts = {1, -1, 2, -2, 3, -3, 9999, -9999};
         int[] at500000 = {0, 0, 1, -1, 1, -1, 4999, -4999};
         int[] at999999 = {0, 0, 1, -1, 2, -2, 9998, -9998};
@@ -65,7 +65,7 @@ public final class ClockEdgeTest {
     }
 
     private static void pulsesHaveTheOwnTick() {
-        Edges.sentence("Terms", "A pulse has the own tick.");
+        Sentences.of("Terms", "A pulse has the own tick.");
         DeepiceWatch w = Watches.eyeAt(0, 0, 30);
         w.setClock(0, 9999, 9999);
         w.flash(0, 0, 30, 1, 99999);
@@ -90,7 +90,7 @@ public final class ClockEdgeTest {
 
     /** The own ticks of 0, 50, 200 and 201 are 500, 550, 701 and 703. */
     private static void lastTwoCalls() {
-        Edges.sentence("Terms", "An eye can be called, by which a true tick and the own one are known; the last two calls"
+        Sentences.of("Terms", "An eye can be called, by which a true tick and the own one are known; the last two calls"
                 + " are kept");
         DeepiceWatch w = Watches.eyeAt(0, 0, 30);
         w.setClock(0, 500, 9999);
@@ -110,7 +110,7 @@ public final class ClockEdgeTest {
     }
 
     private static void noneAsTheClockIsSet() {
-        Edges.sentence("Terms", "the last two calls are kept, none as a clock is set");
+        Sentences.of("Terms", "the last two calls are kept, none as a clock is set");
         DeepiceWatch w = Watches.grid();
         w.setClock(0, 100, 0);
         w.call(0, 1000);
@@ -129,7 +129,7 @@ public final class ClockEdgeTest {
 
     /** The own ticks 1101 and 9109 are 1000 and 9000: each one more is 8000 / 8008 more, 0.999. */
     private static void twoCallsAreCut() {
-        Edges.sentence("Terms", "The mended tick of an own one is, with two calls of unlike own ticks, the true one of the"
+        Sentences.of("Terms", "The mended tick of an own one is, with two calls of unlike own ticks, the true one of the"
                 + " first plus the difference from its own one times that of both true ones, divided by that of both own"
                 + " ones, cut toward 0");
         DeepiceWatch w = Watches.eyeAt(0, 0, 30);
@@ -150,7 +150,7 @@ public final class ClockEdgeTest {
 
     /** The own ticks 0 and 9901 are 0 and 10000: 100 are 100.9999. */
     private static void slowClockIsCut() {
-        Edges.sentence("Terms", "divided by that of both own ones, cut toward 0");
+        Sentences.of("Terms", "divided by that of both own ones, cut toward 0");
         DeepiceWatch w = Watches.eyeAt(0, 0, 30);
         w.setClock(0, 0, -9999);
         Check.same("17: the first", w.call(0, 0), 0);
@@ -166,7 +166,7 @@ public final class ClockEdgeTest {
 
     /** By -9999 millionths 100 is 100 still, and 101 is 100, too; 102 is 101. */
     private static void likeOwnTicks() {
-        Edges.sentence("Terms", "otherwise the difference from the own tick of the last call is added to its true one");
+        Sentences.of("Terms", "otherwise the difference from the own tick of the last call is added to its true one");
         DeepiceWatch w = Watches.eyeAt(0, 0, 30);
         w.setClock(0, 0, -9999);
         Check.same("17: the first", w.call(0, 100), 100);
@@ -181,7 +181,7 @@ public final class ClockEdgeTest {
     }
 
     private static void oneCall() {
-        Edges.sentence("Terms", "is added to its true one");
+        Sentences.of("Terms", "is added to its true one");
         DeepiceWatch w = Watches.eyeAt(0, 0, 30);
         w.setClock(0, 10, 9999);
         Check.same("17: the only one", w.call(0, 1000), 1019);
@@ -193,7 +193,7 @@ public final class ClockEdgeTest {
     }
 
     private static void withoutCall() {
-        Edges.sentence("Terms", "without a call it is the own one");
+        Sentences.of("Terms", "without a call it is the own one");
         DeepiceWatch w = Watches.eyeAt(0, 0, 30);
         w.setClock(0, 9999, 9999);
         for (int tick : new int[] {0, 1, -1, 99999, Integer.MAX_VALUE, Integer.MIN_VALUE}) {
@@ -204,7 +204,7 @@ public final class ClockEdgeTest {
     }
 
     private static void anyTick() {
-        Edges.sentence("Promise 18", "`tick`: its own one, any number");
+        Sentences.of("Promise 18", "`tick`: its own one, any number");
         DeepiceWatch w = Watches.eyeAt(0, 0, 30);
         w.setClock(0, -9999, -9999);
         Check.same("17: the first", w.call(0, 0), -9999);
@@ -223,7 +223,7 @@ public final class ClockEdgeTest {
     }
 
     private static void orderByTicks() {
-        Edges.sentence("Terms", "Pulses are in order by mended ticks");
+        Sentences.of("Terms", "Pulses are in order by mended ticks");
         DeepiceWatch w = Watches.grid();
         w.setClock(2, -9999, 0);
         w.setClock(3, 9999, 0);
@@ -249,7 +249,7 @@ public final class ClockEdgeTest {
     }
 
     private static void orderByEyes() {
-        Edges.sentence("Terms", "then by eyes");
+        Sentences.of("Terms", "then by eyes");
         DeepiceWatch w = Watches.grid();
         for (int eye = 23; eye >= 0; eye--) {
             Watches.light(w, eye, 500);
@@ -264,7 +264,7 @@ public final class ClockEdgeTest {
     }
 
     private static void orderAsTheyCame() {
-        Edges.sentence("Terms", "then as they came");
+        Sentences.of("Terms", "then as they came");
         DeepiceWatch w = Watches.grid();
         Watches.light(w, 5, 500);
         Watches.dim(w, 5, 500);
@@ -297,7 +297,7 @@ public final class ClockEdgeTest {
     }
 
     private static void noPulses() {
-        Edges.sentence("Promise 19", "Returns how many pulses are kept.");
+        Sentences.of("Promise 19", "Returns how many pulses are kept.");
         DeepiceWatch w = Watches.grid();
         Check.same("19: none", w.pulses(), 0);
         Watches.light(w, 0, 0);
@@ -309,7 +309,7 @@ public final class ClockEdgeTest {
     }
 
     private static void wipeNone() {
-        Edges.sentence("Promise 21", "Takes all pulses away.");
+        Sentences.of("Promise 21", "Takes all pulses away.");
         DeepiceWatch w = Watches.grid();
         Check.same("21: none", w.wipe(), 0);
         Watches.light(w, 0, 0);

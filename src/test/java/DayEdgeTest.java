@@ -25,7 +25,7 @@ public final class DayEdgeTest {
         meanOfCharges();
         soundWhenFull();
         allCalls();
-        Edges.end();
+        Sentences.end();
     }
 
     private static DeepiceWatch grid() {
@@ -47,7 +47,7 @@ public final class DayEdgeTest {
     }
 
     private static void twelveEvents() {
-        Edges.sentence("Terms", "As a day is closed, its events, 12 at most, are kept");
+        Sentences.of("Terms", "As a day is closed, its events, 12 at most, are kept");
         int[] many = {0, 1, 11, 12, 13, 40};
         DeepiceWatch w = grid();
         for (int day = 0; day < many.length; day++) {
@@ -67,7 +67,7 @@ public final class DayEdgeTest {
     }
 
     private static void iceOfThen() {
-        Edges.sentence("Terms", "are kept with what their fits tell by the ice of then");
+        Sentences.of("Terms", "are kept with what their fits tell by the ice of then");
         int[] eaten = {5, 0, 20};
         long[] energies = {17, 13, 40};
         DeepiceWatch w = grid();
@@ -84,7 +84,7 @@ public final class DayEdgeTest {
     }
 
     private static void pulsesAreGone() {
-        Edges.sentence("Terms", "pulses are gone");
+        Sentences.of("Terms", "pulses are gone");
         DeepiceWatch w = grid();
         for (int i = 0; i < 7; i++) {
             w.noise(30);
@@ -102,7 +102,7 @@ public final class DayEdgeTest {
     }
 
     private static void claimsStay() {
-        Edges.sentence("Terms", "claims stay");
+        Sentences.of("Terms", "claims stay");
         DeepiceWatch w = Watches.cube();
         Watches.tracks(w, 7, 2, 0);
         w.claim(7);
@@ -116,7 +116,7 @@ public final class DayEdgeTest {
     }
 
     private static void sixDays() {
-        Edges.sentence("Terms", "At most 6 days are numbered from 0.");
+        Sentences.of("Terms", "At most 6 days are numbered from 0.");
         DeepiceWatch w = grid();
         for (int day = 0; day < 6; day++) {
             int of = day;
@@ -136,7 +136,7 @@ public final class DayEdgeTest {
     }
 
     private static void energiesDoneAgain() {
-        Edges.sentence("Terms", "Done again, the energies of a day are found by the ice of now");
+        Sentences.of("Terms", "Done again, the energies of a day are found by the ice of now");
         DeepiceWatch w = grid();
         events(w, 2);
         w.closeDay();
@@ -154,7 +154,7 @@ public final class DayEdgeTest {
     }
 
     private static void versionAlsoIfAlike() {
-        Edges.sentence("Terms", "whose version is theirs then, also if they are alike");
+        Sentences.of("Terms", "whose version is theirs then, also if they are alike");
         DeepiceWatch w = grid();
         events(w, 2);
         w.closeDay();
@@ -171,7 +171,7 @@ public final class DayEdgeTest {
     }
 
     private static void theRestStays() {
-        Edges.sentence("Terms", "the rest stays");
+        Sentences.of("Terms", "the rest stays");
         DeepiceWatch w = Watches.cube();
         Watches.track(w, 6, 1000);
         w.flash(0, 0, 30, 1, 5000);
@@ -197,7 +197,7 @@ public final class DayEdgeTest {
     }
 
     private static void noEnergyWithoutPulses() {
-        Edges.sentence("Promise 39", "'e' its energy, 0 without pulses kept");
+        Sentences.of("Promise 39", "'e' its energy, 0 without pulses kept");
         DeepiceWatch w = grid();
         w.setPartner(9, 300);
         events(w, 2);
@@ -217,7 +217,7 @@ public final class DayEdgeTest {
     }
 
     private static void noKindWithoutPulses() {
-        Edges.sentence("Promise 40", "Returns 't', 'b', or '-' without pulses kept.");
+        Sentences.of("Promise 40", "Returns 't', 'b', or '-' without pulses kept.");
         DeepiceWatch w = Watches.cube();
         Watches.track(w, 6, 1000);
         w.closeDay();
@@ -237,7 +237,7 @@ public final class DayEdgeTest {
     }
 
     private static void vetoedOrNot() {
-        Edges.sentence("Promise 39", "'v' 1 if it was vetoed, else 0");
+        Sentences.of("Promise 39", "'v' 1 if it was vetoed, else 0");
         int[] late = {18, 17};
         for (int i = 0; i < 2; i++) {
             DeepiceWatch w = Watches.slow(2, 1, late[i]);
@@ -257,7 +257,7 @@ public final class DayEdgeTest {
     }
 
     private static void redoneOthers() {
-        Edges.sentence("Promise 41", "Returns how many are other ones then.");
+        Sentences.of("Promise 41", "Returns how many are other ones then.");
         DeepiceWatch w = grid();
         Check.same("37: no events", w.closeDay(), 0);
         Check.same("41: of none", w.redo(0), 0);
@@ -277,7 +277,7 @@ public final class DayEdgeTest {
     }
 
     private static void noDays() {
-        Edges.sentence("Promise 38", "Returns how many days were closed.");
+        Sentences.of("Promise 38", "Returns how many days were closed.");
         DeepiceWatch w = new DeepiceWatch();
         Check.same("38: none", w.days(), 0);
         Check.same("37: a day of a new watch", w.closeDay(), 0);
@@ -301,7 +301,7 @@ public final class DayEdgeTest {
     }
 
     private static void sumOfNothing() {
-        Edges.sentence("Promise 42", "Returns 7 at first");
+        Sentences.of("Promise 42", "Returns 7 at first");
         DeepiceWatch w = new DeepiceWatch();
         Check.same("42: thrice times 31", w.checksum(), 208537);
         w.vote(1, 0);
@@ -316,8 +316,8 @@ public final class DayEdgeTest {
 
     /** A tick of 75000 or more times 31 to the tenth, as four pulses make it, is above the greatest long. */
     private static void sumWrapsAround() {
-        Edges.sentence("Promise 42", "for each pulse in order 31 times itself plus its mended tick, then 31 times itself"
-                + " plus its charge");
+        Sentences.of("Promise 42", "then for each pulse in order 31 times itself plus its mended tick, then 31 times"
+                + " itself plus its charge");
         DeepiceWatch w = Watches.eyeAt(0, 0, 30);
         w.setClock(0, -9999, 0);
         for (int i = 1; i <= 20; i++) {
@@ -342,7 +342,7 @@ public final class DayEdgeTest {
     }
 
     private static void shareOfLoudEyes() {
-        Edges.sentence("Promise 43", "Returns their number divided by that of all, both converted to float.");
+        Sentences.of("Promise 43", "Returns their number divided by that of all, both converted to float.");
         DeepiceWatch w = new DeepiceWatch();
         w.addString(0, 0);
         for (int i = 0; i < 24; i++) {
@@ -359,7 +359,7 @@ public final class DayEdgeTest {
     }
 
     private static void meanOfCharges() {
-        Edges.sentence("Promise 44", "Returns the sum divided by their number, both converted to double.");
+        Sentences.of("Promise 44", "Returns the sum divided by their number, both converted to double.");
         DeepiceWatch w = Watches.eyeAt(0, 0, 30);
         w.noise(1);
         Check.same("44: one of 1", w.meanCharge(), 1);
@@ -374,7 +374,7 @@ public final class DayEdgeTest {
     }
 
     private static void soundWhenFull() {
-        Edges.sentence("Promise 45", "Returns true if so.");
+        Sentences.of("Promise 45", "Returns true if so.");
         Check.same("45: a new one", new DeepiceWatch().isSound(), true);
         Check.same("45: full of strings", Watches.fullOfStrings().isSound(), true);
         Check.same("45: full of eyes", Watches.fullOfEyes().isSound(), true);
@@ -393,7 +393,7 @@ public final class DayEdgeTest {
 
     /** 512 calls, of which the last ones are answered as any. */
     private static void allCalls() {
-        Edges.sentence("What it is", "An object is used for at most 512 calls after it has been made");
+        Sentences.of("What it is", "An object is used for at most 512 calls after it has been made");
         DeepiceWatch w = Watches.eyeAt(0, 0, 30);
         w.addEye(0, 40);
         w.vote(1, 0);

@@ -22,7 +22,7 @@ public final class EventEdgeTest {
         ticksApart();
         toldAnew();
         firstAndLast();
-        Edges.end();
+        Sentences.end();
     }
 
     private static DeepiceWatch trigger(int eyes, int window) {
@@ -32,7 +32,7 @@ public final class EventEdgeTest {
     }
 
     private static void goodEyesAlone() {
-        Edges.sentence("Terms", "Of the pulses of good eyes, in order");
+        Sentences.of("Terms", "Of the pulses of good eyes, in order");
         DeepiceWatch w = trigger(3, 100);
         for (int eye = 0; eye < 5; eye++) {
             Watches.light(w, eye, 10 * eye);
@@ -59,7 +59,7 @@ public final class EventEdgeTest {
     }
 
     private static void windowIsIncluded() {
-        Edges.sentence("Terms", "those from one on up to a window later, that included, are a trigger");
+        Sentences.of("Terms", "those from one on up to a window later, that included, are a trigger");
         int[] windows = {1, 2, 500, 9998, 9999};
         for (int window : windows) {
             DeepiceWatch w = trigger(2, window);
@@ -86,7 +86,7 @@ public final class EventEdgeTest {
     }
 
     private static void fromOneOn() {
-        Edges.sentence("Terms", "those from one on");
+        Sentences.of("Terms", "those from one on");
         DeepiceWatch w = trigger(3, 100);
         Watches.light(w, 0, 1000);
         Watches.light(w, 1, 1050);
@@ -103,7 +103,7 @@ public final class EventEdgeTest {
     }
 
     private static void soManyUnlikeEyes() {
-        Edges.sentence("Terms", "are a trigger if they are of so many unlike eyes");
+        Sentences.of("Terms", "are a trigger if they are of so many unlike eyes");
         for (int eyes = 2; eyes <= 9; eyes++) {
             DeepiceWatch w = trigger(eyes, 100);
             for (int eye = 25 - eyes; eye < 24; eye++) {
@@ -130,7 +130,7 @@ public final class EventEdgeTest {
     }
 
     private static void atFirst() {
-        Edges.sentence("Terms", "4, and 500 ticks, at first");
+        Sentences.of("Terms", "4, and 500 ticks, at first");
         DeepiceWatch w = Watches.grid();
         Watches.light(w, 0, 1000);
         Watches.light(w, 1, 1000);
@@ -146,7 +146,7 @@ public final class EventEdgeTest {
     }
 
     private static void joinedByOnePulse() {
-        Edges.sentence("Terms", "Triggers that share a pulse are joined");
+        Sentences.of("Terms", "Triggers that share a pulse are joined");
         DeepiceWatch w = trigger(2, 100);
         Watches.light(w, 0, 0);
         Watches.light(w, 1, 100);
@@ -179,7 +179,7 @@ public final class EventEdgeTest {
     }
 
     private static void joinedByOthers() {
-        Edges.sentence("Terms", "so are those that share one with these");
+        Sentences.of("Terms", "so are those that share one with these");
         DeepiceWatch w = trigger(2, 100);
         for (int i = 0; i < 24; i++) {
             Watches.light(w, i, 100 * i);
@@ -195,7 +195,7 @@ public final class EventEdgeTest {
     }
 
     private static void numberedByTime() {
-        Edges.sentence("Terms", "what is joined is an event, numbered by time from 0");
+        Sentences.of("Terms", "what is joined is an event, numbered by time from 0");
         DeepiceWatch w = trigger(2, 10);
         w.setClock(0, -9999, 0);
         w.setClock(1, -9999, 0);
@@ -219,7 +219,7 @@ public final class EventEdgeTest {
     }
 
     private static void noEvents() {
-        Edges.sentence("Promise 24", "Returns how many events there are.");
+        Sentences.of("Promise 24", "Returns how many events there are.");
         DeepiceWatch w = trigger(2, 100);
         Check.same("24: no pulses", w.events(), 0);
         Watches.light(w, 0, 0);
@@ -232,7 +232,7 @@ public final class EventEdgeTest {
 
     /** 200 pulses, two in each event; and all days' events but 12 are lost. */
     private static void asManyAsCanBe() {
-        Edges.sentence("Terms", "what is joined is an event");
+        Sentences.of("Terms", "what is joined is an event");
         DeepiceWatch w = trigger(2, 1);
         for (int i = 0; i < 200; i++) {
             Watches.light(w, i % 2, 300 * (i / 2) + i % 2);
@@ -248,7 +248,7 @@ public final class EventEdgeTest {
 
     /** 24 eyes, eight times at one tick each, and eight of them once more. */
     private static void allPulsesInOne() {
-        Edges.sentence("Promise 25", "'n' how many pulses it has, 'e' of how many unlike eyes, 'q' their charge, 'k' how"
+        Sentences.of("Promise 25", "'n' how many pulses it has, 'e' of how many unlike eyes, 'q' their charge, 'k' how"
                 + " many are kept");
         DeepiceWatch w = trigger(9, 1);
         for (int i = 0; i < 200; i++) {
@@ -267,7 +267,7 @@ public final class EventEdgeTest {
     }
 
     private static void anotherOneOfIt() {
-        Edges.sentence("Terms", "A pulse of an event is kept if another one of it");
+        Sentences.of("Terms", "A pulse of an event is kept if another one of it");
         DeepiceWatch w = trigger(2, 100);
         Watches.light(w, 0, 0);
         Watches.light(w, 23, 50);
@@ -290,7 +290,7 @@ public final class EventEdgeTest {
     }
 
     private static void anotherEye() {
-        Edges.sentence("Terms", "of another eye at a distance of at most the reach");
+        Sentences.of("Terms", "of another eye at a distance of at most the reach");
         DeepiceWatch w = Watches.eyeAt(0, 0, 0);
         w.addEye(0, 63);
         w.setTrigger(2, 1000);
@@ -314,7 +314,7 @@ public final class EventEdgeTest {
 
     /** Eye 0 at 0 and one as deep as the distance; from corner to corner it is 84. */
     private static void reach() {
-        Edges.sentence("Terms", "at a distance of at most the reach");
+        Sentences.of("Terms", "at a distance of at most the reach");
         for (int away : new int[] {1, 2, 19, 21, 62, 63}) {
             DeepiceWatch w = Watches.eyeAt(0, 0, 0);
             w.addEye(0, away);
@@ -350,7 +350,7 @@ public final class EventEdgeTest {
 
     /** 6 and 2 and 20 are 440, 1 below the square of 21; 4 and 5 and 20 are 441. */
     private static void reachIsCut() {
-        Edges.sentence("Terms", "of another eye at a distance of at most the reach, 20 at first");
+        Sentences.of("Terms", "of another eye at a distance of at most the reach, 20 at first");
         int[][] off = {{0, 0, 20}, {6, 2, 20}, {4, 5, 20}, {0, 0, 21}};
         int[] due = {2, 2, 0, 0};
         for (int i = 0; i < off.length; i++) {
@@ -365,7 +365,7 @@ public final class EventEdgeTest {
     }
 
     private static void partnersAtFirst() {
-        Edges.sentence("Terms", "is at most 300 ticks apart");
+        Sentences.of("Terms", "is at most 300 ticks apart");
         DeepiceWatch w = trigger(2, 1000);
         Watches.light(w, 0, 1000);
         Watches.light(w, 2, 1301);
@@ -384,7 +384,7 @@ public final class EventEdgeTest {
     }
 
     private static void ticksApart() {
-        Edges.sentence("Terms", "is at most 300 ticks apart, which can be told anew");
+        Sentences.of("Terms", "is at most 300 ticks apart, which can be told anew");
         for (int ticks : new int[] {1, 2, 299, 301, 5000}) {
             DeepiceWatch w = trigger(2, 9999);
             w.setPartner(20, ticks);
@@ -401,7 +401,7 @@ public final class EventEdgeTest {
     }
 
     private static void toldAnew() {
-        Edges.sentence("Terms", "which can be told anew");
+        Sentences.of("Terms", "which can be told anew");
         DeepiceWatch w = trigger(2, 1000);
         Watches.light(w, 0, 0);
         Watches.light(w, 2, 300);
@@ -419,7 +419,7 @@ public final class EventEdgeTest {
     }
 
     private static void firstAndLast() {
-        Edges.sentence("Promise 25", "'f' the mended tick of its first pulse, 'l' of its last one");
+        Sentences.of("Promise 25", "'f' the mended tick of its first pulse, 'l' of its last one");
         DeepiceWatch w = trigger(2, 100);
         w.setClock(0, -1000, 0);
         Watches.light(w, 0, 1000);

@@ -22,11 +22,11 @@ public final class FieldEdgeTest {
         halfOfDepths();
         version();
         anyDepth();
-        Edges.end();
+        Sentences.end();
     }
 
     private static void newObject() {
-        Edges.sentence("Promise 1", "Creates a watch without strings, layers and pulses.");
+        Sentences.of("Promise 1", "Creates a watch without strings, layers and pulses.");
         DeepiceWatch w = new DeepiceWatch();
         Check.thrown("1: no string", INDEX, () -> w.setOuter(0, true));
         Check.thrown("1: no string for an eye", INDEX, () -> w.addEye(0, 0));
@@ -53,7 +53,7 @@ public final class FieldEdgeTest {
     }
 
     private static void sixStrings() {
-        Edges.sentence("Terms", "At most 6 strings are numbered from 0, each at a place x and y");
+        Sentences.of("Terms", "At most 6 strings are numbered from 0, each at a place x and y");
         DeepiceWatch w = new DeepiceWatch();
         for (int i = 0; i < 6; i++) {
             Check.thrown("2: not yet", INDEX, () -> w.setOuter(w.addString(9, 9) + 1, true));
@@ -70,7 +70,7 @@ public final class FieldEdgeTest {
     }
 
     private static void notOuterAtFirst() {
-        Edges.sentence("Terms", "outer ones or not, not at first");
+        Sentences.of("Terms", "outer ones or not, not at first");
         DeepiceWatch w = new DeepiceWatch();
         for (int i = 0; i < 6; i++) {
             Check.same("3: not at first", w.setOuter(w.addString(0, 0), i % 2 == 0), false);
@@ -81,7 +81,7 @@ public final class FieldEdgeTest {
     }
 
     private static void twentyFourEyes() {
-        Edges.sentence("Terms", "At most 24 eyes are numbered from 0, each on a string at a depth z");
+        Sentences.of("Terms", "At most 24 eyes are numbered from 0, each on a string at a depth z");
         DeepiceWatch w = new DeepiceWatch();
         w.addString(0, 0);
         w.addString(5, 0);
@@ -98,7 +98,7 @@ public final class FieldEdgeTest {
     }
 
     private static void states() {
-        Edges.sentence("Terms", "An eye is good 'g', at first, dead 'd', or loud 'l'.");
+        Sentences.of("Terms", "An eye is good 'g', at first, dead 'd', or loud 'l'.");
         DeepiceWatch w = new DeepiceWatch();
         w.addString(0, 0);
         for (int i = 0; i < 24; i++) {
@@ -112,7 +112,7 @@ public final class FieldEdgeTest {
 
     /** All pairs of 24 eyes: a square is not above the sum, and the next one is. */
     private static void distanceIsCut() {
-        Edges.sentence("Terms", "The distance of two places is the greatest whole number whose square is not above the sum"
+        Sentences.of("Terms", "The distance of two places is the greatest whole number whose square is not above the sum"
                 + " of the squares of their differences.");
         int[][] strings = {{-20, -20}, {20, 20}, {-20, 20}, {0, 0}, {1, 0}, {3, 4}};
         int[] depths = {0, 1, 12, 63};
@@ -165,7 +165,7 @@ public final class FieldEdgeTest {
      * 5 times 29, 1830, and 234423 hundredths.
      */
     private static void distanceBeyondTheField() {
-        Edges.sentence("Terms", "The distance of two places is the greatest whole number");
+        Sentences.of("Terms", "The distance of two places is the greatest whole number");
         DeepiceWatch w = Watches.eyeAt(20, 20, 0);
         w.setLayer(0, 0, 20);
         w.setLayer(60, 7, 0);
@@ -180,7 +180,7 @@ public final class FieldEdgeTest {
     }
 
     private static void theSameEye() {
-        Edges.sentence("Promise 6", "`other`: another one, or the same");
+        Sentences.of("Promise 6", "`other`: another one, or the same");
         DeepiceWatch w = Watches.grid();
         w.setEye(5, 'd');
         for (int i = 0; i < 24; i++) {
@@ -192,7 +192,7 @@ public final class FieldEdgeTest {
     }
 
     private static void sixLayers() {
-        Edges.sentence("Terms", "At most 6 layers each begin at a depth");
+        Sentences.of("Terms", "At most 6 layers each begin at a depth");
         DeepiceWatch w = new DeepiceWatch();
         int[] from = {63, 0, 31, 32, 1, 62};
         for (int i = 0; i < 6; i++) {
@@ -207,7 +207,7 @@ public final class FieldEdgeTest {
     }
 
     private static void scatteringAndPart() {
-        Edges.sentence("Terms", "with a scattering, 0 to 99, and a part that is eaten, 0 to 20 hundredths");
+        Sentences.of("Terms", "with a scattering, 0 to 99, and a part that is eaten, 0 to 20 hundredths");
         DeepiceWatch w = Watches.eyeAt(0, 0, 10);
         w.setLayer(0, 0, 20);
         Check.same("11: without scattering", w.delayTo(0, 10, 0, 10), 100);
@@ -218,7 +218,7 @@ public final class FieldEdgeTest {
     }
 
     private static void takesItsPlace() {
-        Edges.sentence("Terms", "one that is told at the depth of another one takes its place");
+        Sentences.of("Terms", "one that is told at the depth of another one takes its place");
         DeepiceWatch w = Watches.eyeAt(0, 0, 10);
         Check.same("7: one", w.setLayer(10, 30, 20), 1);
         Check.same("7: still one", w.setLayer(10, 40, 0), 1);
@@ -237,7 +237,7 @@ public final class FieldEdgeTest {
     }
 
     private static void beginsThereOrAbove() {
-        Edges.sentence("Terms", "A depth has the layer that begins there or above it, of several the deepest");
+        Sentences.of("Terms", "A depth has the layer that begins there or above it, of several the deepest");
         DeepiceWatch w = new DeepiceWatch();
         w.setLayer(21, 31, 1);
         w.setLayer(20, 32, 2);
@@ -254,7 +254,7 @@ public final class FieldEdgeTest {
     }
 
     private static void withoutLayer() {
-        Edges.sentence("Terms", "and without one a scattering of 10 and a part of 5");
+        Sentences.of("Terms", "and without one a scattering of 10 and a part of 5");
         DeepiceWatch w = Watches.eyeAt(0, 0, 30);
         Check.same("8: no layer at all", w.scatteringAt(30), 10);
         Check.same("10: 200, 190, 180", w.chargeAt(0, 2, 0, 30, 1), 180);
@@ -271,7 +271,7 @@ public final class FieldEdgeTest {
 
     /** Above the field half of -1 is 0, where the layer begins, and half of -2 is -1, without a layer. */
     private static void halfOfDepths() {
-        Edges.sentence("Terms", "The ice between two places is that of half of the sum of their depths, cut toward 0.");
+        Sentences.of("Terms", "The ice between two places is that of half of the sum of their depths, cut toward 0.");
         DeepiceWatch w = Watches.eyeAt(0, 0, 10);
         w.setLayer(11, 10, 20);
         Check.same("10: half of 21 is 10: 200, 190, 180 by 2", w.chargeAt(0, 1, 1, 11, 1), 237);
@@ -321,7 +321,7 @@ public final class FieldEdgeTest {
     }
 
     private static void version() {
-        Edges.sentence("Terms", "The version of the ice is how often layers were told.");
+        Sentences.of("Terms", "The version of the ice is how often layers were told.");
         DeepiceWatch w = new DeepiceWatch();
         Check.same("9: none", w.version(), 0);
         for (int i = 1; i <= 6; i++) {
@@ -335,7 +335,7 @@ public final class FieldEdgeTest {
     }
 
     private static void anyDepth() {
-        Edges.sentence("Promise 8", "`depth`: any number");
+        Sentences.of("Promise 8", "`depth`: any number");
         DeepiceWatch w = new DeepiceWatch();
         Check.same("8: the least", w.scatteringAt(Integer.MIN_VALUE), 10);
         Check.same("8: the greatest", w.scatteringAt(Integer.MAX_VALUE), 10);

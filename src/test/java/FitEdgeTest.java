@@ -6,6 +6,7 @@ public final class FitEdgeTest {
         meanTickIsCut();
         meanPlaceIsCut();
         meanPlaceBelowZero();
+        speedByMoments();
         speedIsCut();
         speedBelowOneIsNone();
         speedOfOneTick();
@@ -19,7 +20,7 @@ public final class FitEdgeTest {
         vetoedByFirstPulse();
         vetoedAsItGoesDown();
         vetoedWithoutPulsesKept();
-        Edges.end();
+        Sentences.end();
     }
 
     private static DeepiceWatch grid() {
@@ -30,7 +31,7 @@ public final class FitEdgeTest {
 
     /** Eyes 1 and 2 are 10 apart; eye 5 is 30 from the nearer one. */
     private static void keptPulsesAlone() {
-        Edges.sentence("Terms", "All is by the pulses of an event that are kept");
+        Sentences.of("Terms", "All is by the pulses of an event that are kept");
         DeepiceWatch w = grid();
         Watches.light(w, 1, 1000);
         Watches.light(w, 2, 1200);
@@ -50,7 +51,7 @@ public final class FitEdgeTest {
     }
 
     private static void asOftenAsItsCharge() {
-        Edges.sentence("Terms", "each as often as its charge");
+        Sentences.of("Terms", "each as often as its charge");
         DeepiceWatch w = grid();
         Watches.dim(w, 1, 1000);
         Watches.light(w, 2, 1000);
@@ -68,7 +69,7 @@ public final class FitEdgeTest {
 
     /** Of ticks 100 (85) and 101 (255) the mean is 100.75; of -9969 (85) and -9968 (255) it is -9968.25. */
     private static void meanTickIsCut() {
-        Edges.sentence("Terms", "The mean tick is cut");
+        Sentences.of("Terms", "The mean tick is cut");
         DeepiceWatch w = grid();
         Watches.dim(w, 1, 100);
         Watches.light(w, 2, 101);
@@ -119,7 +120,7 @@ public final class FitEdgeTest {
     }
 
     private static void meanPlaceIsCut() {
-        Edges.sentence("Terms", "the mean place is told in hundredths, each cut toward 0");
+        Sentences.of("Terms", "the mean place is told in hundredths, each cut toward 0");
         DeepiceWatch w = aside(1, 1);
         Check.same("25: charge", w.eventAt(0, 'q'), 595);
         Check.same("26: 8500 / 595 = 14.3", w.placeOf(0, 'x'), 14);
@@ -132,7 +133,7 @@ public final class FitEdgeTest {
     }
 
     private static void meanPlaceBelowZero() {
-        Edges.sentence("Terms", "each cut toward 0");
+        Sentences.of("Terms", "each cut toward 0");
         DeepiceWatch w = aside(-1, -2);
         Check.same("26: -8500 / 595 = -14.3", w.placeOf(0, 'x'), -14);
         Check.same("26: -17000 / 595 = -28.6", w.placeOf(0, 'y'), -28);
@@ -144,8 +145,47 @@ public final class FitEdgeTest {
         Check.same("26: whole", whole.placeOf(0, 'y'), -1000);
     }
 
+    /**
+     * Ticks 1000, 1100, 1200 and 1350 with 85, 255, 255 and 85: 786250 by 680 is 1156.25, cut to 1156. Each eye is 10 on
+     * z behind the last one, but the third, which is 20 to a side and as deep as the second.
+     */
+    private static void speedByMoments() {
+        Sentences.of("Terms", "The speed on an axis is 1000 times the sum of charges times the differences of ticks from"
+                + " the mean one times the differences of places, in hundredths, from the mean one");
+        DeepiceWatch w = Watches.grid();
+        w.setTrigger(4, 500);
+        int[] eyes = {0, 1, 7, 2};
+        int[] ticks = {1000, 1100, 1200, 1350};
+        int[] charges = {85, 255, 255, 85};
+        for (int i = 0; i < 4; i++) {
+            if (charges[i] == 85) {
+                Watches.dim(w, eyes[i], ticks[i]);
+            } else {
+                Watches.light(w, eyes[i], ticks[i]);
+            }
+        }
+        Check.same("25: all are kept", w.eventAt(0, 'k'), 4);
+        int[][] places = {{0, 0, 2000, 0}, {0, 0, 0, 0}, {0, 1000, 1000, 2000}};
+        int[] means = {750, 0, 1000};
+        long spread = 0;
+        for (int i = 0; i < 4; i++) {
+            spread += (long) charges[i] * (ticks[i] - 1156) * (ticks[i] - 1156);
+        }
+        for (int axis = 0; axis < 3; axis++) {
+            char name = "xyz".charAt(axis);
+            Check.same("26: mean " + name, w.placeOf(0, name), means[axis]);
+            long sum = 0;
+            for (int i = 0; i < 4; i++) {
+                sum += (long) charges[i] * (ticks[i] - 1156) * (places[axis][i] - means[axis]);
+            }
+            Check.same("27: speed " + name, w.speedOf(0, name), 1000 * sum / spread);
+        }
+        Check.same("27: 22312500000 by 6560980", w.speedOf(0, 'x'), 3400);
+        Check.same("27: 29750000000 by 6560980", w.speedOf(0, 'z'), 4534);
+    }
+
     private static void speedIsCut() {
-        Edges.sentence("Terms", "divided by the sum of charges times the squares of those of ticks, cut toward 0");
+        Sentences.of("Terms", "divided by the sum of charges times the squares of those of ticks, cut toward 0");
         DeepiceWatch w = Watches.two(7, -7, 11, 300);
         Check.same("27: 700000 / 300 = 2333.3", w.speedOf(0, 'x'), 2333);
         Check.same("27: -700000 / 300 = -2333.3", w.speedOf(0, 'y'), -2333);
@@ -161,7 +201,7 @@ public final class FitEdgeTest {
     }
 
     private static void speedBelowOneIsNone() {
-        Edges.sentence("Terms", "cut toward 0, 0 if that is 0");
+        Sentences.of("Terms", "cut toward 0, 0 if that is 0");
         for (int axis = 0; axis < 3; axis++) {
             char name = "xyz".charAt(axis);
             Check.same("27: 0.9998 on " + name, Watches.slow(axis, 1, 17).speedOf(0, name), 0);
@@ -175,7 +215,7 @@ public final class FitEdgeTest {
     }
 
     private static void speedOfOneTick() {
-        Edges.sentence("Terms", "0 if that is 0");
+        Sentences.of("Terms", "0 if that is 0");
         DeepiceWatch w = grid();
         for (int eye = 0; eye < 24; eye++) {
             Watches.light(w, eye, 1000);
@@ -190,7 +230,7 @@ public final class FitEdgeTest {
     }
 
     private static void trackOrBall() {
-        Edges.sentence("Terms", "An event is a track 't' if the squares of its three speeds are 25000000 or more together,"
+        Sentences.of("Terms", "An event is a track 't' if the squares of its three speeds are 25000000 or more together,"
                 + " else a ball 'b'.");
         int[][] axes = {{1, 0, 0}, {0, 1, 0}, {0, 0, 1}};
         for (int[] on : axes) {
@@ -205,7 +245,7 @@ public final class FitEdgeTest {
     }
 
     private static void trackByAllAxes() {
-        Edges.sentence("Terms", "the squares of its three speeds are 25000000 or more together");
+        Sentences.of("Terms", "the squares of its three speeds are 25000000 or more together");
         Check.same("28: 3000 and 4000 are 25000000", Watches.two(6, 8, 0, 200).kindOf(0), 't');
         Check.same("28: -3000 and 4000, too", Watches.two(-6, 8, 0, 200).kindOf(0), 't');
         Check.same("28: 3000 and -4000 on z, too", Watches.two(6, 0, 8, 200).kindOf(0), 't');
@@ -224,7 +264,7 @@ public final class FitEdgeTest {
 
     /** Two eyes at one place, so that the energy is that of the charges: 999, then 1000. */
     private static void energyIsAThousandth() {
-        Edges.sentence("Terms", "The energy is a thousandth, cut, of the sum");
+        Sentences.of("Terms", "The energy is a thousandth, cut, of the sum, over pulses");
         DeepiceWatch w = Watches.eyeAt(0, 0, 10);
         w.addEye(0, 10);
         w.setTrigger(2, 500);
@@ -257,7 +297,7 @@ public final class FitEdgeTest {
      * murkiest ice 85 * 226 then become 546 thousands by 15 times 5 / 4, and 255 * 17 become 10 by 4 times.
      */
     private static void energyFromWholePlace() {
-        Edges.sentence("Terms", "from the mean place, in whole ones, cut toward 0, to the eye");
+        Sentences.of("Terms", "from the mean place, in whole ones, cut toward 0, to the eye");
         int[][] sides = {{19, 0}, {-19, 0}, {0, 19}, {0, -19}};
         for (int[] side : sides) {
             DeepiceWatch w = new DeepiceWatch();
@@ -313,8 +353,8 @@ public final class FitEdgeTest {
     }
 
     private static void energyDividedBy() {
-        Edges.sentence("Terms", "as often as the distance says, is taken 100 times and divided by 100 less the hundredths"
-                + " that are eaten");
+        Sentences.of("Terms", "which then, as often as the distance says, is taken 100 times and divided by 100 less"
+                + " the hundredths that are eaten");
         DeepiceWatch w = Watches.two(0, 0, 20, 0);
         w.setLayer(0, 10, 0);
         Check.same("29: nothing is eaten: 255 * 101 twice", w.energyOf(0), 51);
@@ -337,7 +377,7 @@ public final class FitEdgeTest {
 
     /** 9 pulses of charge 1 on each side, 10 from the mean place: 101, 106, 111 .. 163 by cuts, 168.7 without. */
     private static void energyIsCutEachTime() {
-        Edges.sentence("Terms", "divided by 100 less the hundredths that are eaten, cut each time.");
+        Sentences.of("Terms", "divided by 100 less the hundredths that are eaten, cut each time.");
         DeepiceWatch w = Watches.eyeAt(0, 0, 10);
         w.addEye(0, 30);
         w.setTrigger(2, 500);
@@ -351,7 +391,7 @@ public final class FitEdgeTest {
     }
 
     private static void energyAtNoDistance() {
-        Edges.sentence("Terms", "of the charge times 1 and the square of differences summed");
+        Sentences.of("Terms", "of the charge times 1 and the square of differences summed");
         DeepiceWatch w = Watches.two(0, 0, 0, 0);
         Check.same("25: two of 255", w.eventAt(0, 'q'), 510);
         Check.same("29: 510", w.energyOf(0), 0);
@@ -362,7 +402,7 @@ public final class FitEdgeTest {
     }
 
     private static void vetoedByFirstPulse() {
-        Edges.sentence("Terms", "An event is vetoed if its first pulse, kept or not, is on an outer string");
+        Sentences.of("Terms", "An event is vetoed if its first pulse, kept or not, is on an outer string");
         DeepiceWatch w = grid();
         w.setPartner(10, 300);
         Watches.light(w, 2, 1100);
@@ -385,7 +425,7 @@ public final class FitEdgeTest {
     }
 
     private static void vetoedAsItGoesDown() {
-        Edges.sentence("Terms", "or if it is a track that goes down, its speed on z being above 0");
+        Sentences.of("Terms", "or if it is a track that goes down, its speed on z being above 0");
         Check.same("30: 1", Watches.slow(2, 1, 18).isVetoed(0), true);
         Check.same("28: of a track", Watches.slow(2, 1, 18).kindOf(0), 't');
         Check.same("30: 0.9998, which is 0", Watches.slow(2, 1, 17).isVetoed(0), false);
@@ -399,7 +439,7 @@ public final class FitEdgeTest {
     }
 
     private static void vetoedWithoutPulsesKept() {
-        Edges.sentence("Promise 30", "without pulses kept by its first pulse alone");
+        Sentences.of("Promise 30", "without pulses kept by its first pulse alone");
         DeepiceWatch w = Watches.two(0, 0, 10, 200);
         Check.same("30: as a track down", w.isVetoed(0), true);
         w.setPartner(9, 300);

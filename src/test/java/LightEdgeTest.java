@@ -30,12 +30,12 @@ public final class LightEdgeTest {
         twoHundredPulses();
         twoHundredOfPassers();
         twoHundredOfNoise();
-        Edges.end();
+        Sentences.end();
     }
 
     /** In ice that eats nothing: 31, 6 and 1 off is a square of 998, 30 and 10 off is one of 1000. */
     private static void chargeIsCut() {
-        Edges.sentence("Terms", "Light of a strength at a place comes to an eye with a charge of 1000 times the strength,"
+        Sentences.of("Terms", "Light of a strength at a place comes to an eye with a charge of 1000 times the strength,"
                 + " divided by 1 and the square of differences summed, cut");
         DeepiceWatch w = Watches.clearEyeAt(20, 10, 30);
         Check.same("10: 1000 / 4 is a whole number", w.chargeAt(0, 19, 9, 29, 1), 250);
@@ -51,7 +51,7 @@ public final class LightEdgeTest {
     }
 
     private static void chargeIsEaten() {
-        Edges.sentence("Terms", "which then, as often as the distance says, becomes itself times 100 less the hundredths"
+        Sentences.of("Terms", "which then, as often as the distance says, becomes itself times 100 less the hundredths"
                 + " that are eaten, divided by 100, cut each time");
         DeepiceWatch w = Watches.eyeAt(0, 0, 30);
         Check.same("10: distance 1 of 3: 250, 237.5", w.chargeAt(0, 1, 1, 31, 1), 237);
@@ -70,7 +70,7 @@ public final class LightEdgeTest {
     }
 
     private static void chargeIsAtMost() {
-        Edges.sentence("Terms", "divided by 100, cut each time, 255 at most");
+        Sentences.of("Terms", "divided by 100, cut each time, 255 at most");
         DeepiceWatch w = Watches.clearEyeAt(0, 0, 30);
         Check.same("10: 13000 / 51 = 254.9", w.chargeAt(0, 7, 1, 30, 13), 254);
         Check.same("10: 12000 / 47 = 255.3", w.chargeAt(0, 6, 3, 31, 12), 255);
@@ -87,7 +87,7 @@ public final class LightEdgeTest {
     }
 
     private static void delayIsCut() {
-        Edges.sentence("Terms", "and it comes 10 times the distance later, and the scattering times the square of the"
+        Sentences.of("Terms", "and it comes 10 times the distance later, and the scattering times the square of the"
                 + " distance, divided by 100, cut");
         DeepiceWatch w = Watches.eyeAt(0, 0, 30);
         Check.same("11: 0", w.delayTo(0, 0, 0, 30), 0);
@@ -110,7 +110,7 @@ public final class LightEdgeTest {
     }
 
     private static void delayOfTheSquare() {
-        Edges.sentence("Terms", "the scattering times the square of the distance");
+        Sentences.of("Terms", "the scattering times the square of the distance");
         DeepiceWatch w = Watches.eyeAt(0, 0, 30);
         Check.same("11: of 4, 40 and 1.6, not of 24, 2.4", w.delayTo(0, 2, 2, 34), 41);
         w.setLayer(0, 50, 5);
@@ -119,7 +119,7 @@ public final class LightEdgeTest {
     }
 
     private static void ballSendsOnce() {
-        Edges.sentence("Terms", "A ball sends it once.");
+        Sentences.of("Terms", "A ball sends it once.");
         DeepiceWatch w = Watches.eyeAt(0, 0, 30);
         w.addEye(0, 30);
         Check.same("12: one each", w.flash(3, 0, 30, 1, 1000), 2);
@@ -133,7 +133,7 @@ public final class LightEdgeTest {
 
     /** From (4, 4, 4) off 20; nearer on one axis 1000 / 42 and / 37, farther 1000 / 58 and / 69. */
     private static void stepsOnEachAxis() {
-        Edges.sentence("Terms", "A passer goes from a place by steps, each the same, -2 to 2 for each axis");
+        Sentences.of("Terms", "A passer goes from a place by steps, each the same, -2 to 2 for each axis");
         int[] perStep = {25, 5, 1};
         int[] due = {20 + 27, 20 + 23, 0, 20 + 17, 20 + 14};
         for (int axis = 0; axis < 3; axis++) {
@@ -159,7 +159,7 @@ public final class LightEdgeTest {
 
     /** From (20, 0, 0) down past (0, 0, 20): the charge is 2 as far as 9 off in depth, else 1. */
     private static void sendsBehindEachStep() {
-        Edges.sentence("Terms", "and sends it at its beginning and behind each step");
+        Sentences.of("Terms", "and sends it at its beginning and behind each step");
         int[][] due = {{1, 2}, {2, 3}, {10, 11}, {11, 13}, {39, 59}, {40, 60}};
         for (int[] steps : due) {
             DeepiceWatch w = Watches.clearEyeAt(0, 0, 20);
@@ -177,7 +177,7 @@ public final class LightEdgeTest {
 
     /** Coming nearer by 1 is 10 sooner and a step later 5: the last one comes first. */
     private static void ticksBehindEachStep() {
-        Edges.sentence("Terms", "5 ticks later each time");
+        Sentences.of("Terms", "5 ticks later each time");
         DeepiceWatch w = Watches.eyeAt(0, 0, 60);
         Check.same("a pulse", w.pass(0, 0, 20, DOWN, 40, 1, 1000), 1);
         Check.same("13: 40 steps, at the eye", w.pulseAt(0, 't'), 1200);
@@ -194,7 +194,7 @@ public final class LightEdgeTest {
 
     /** In ice that eats nothing, from places 1 or 2 and so many off in depth. */
     private static void sumIsAtMost() {
-        Edges.sentence("Terms", "summed, 255 at most, as one pulse");
+        Sentences.of("Terms", "summed, 255 at most, as one pulse");
         DeepiceWatch w = Watches.clearEyeAt(0, 0, 30);
         Check.same("13: one pulse", w.pass(0, 0, 36, DOWN_BY_TWO, 1, 6, 0), 1);
         Check.same("13: 6000 / 37 and 6000 / 65 are 162 and 92", w.pulseAt(0, 'q'), 254);
@@ -212,7 +212,7 @@ public final class LightEdgeTest {
 
     /** A charge of 12 from 9 away ends with 1 if 12 hundredths are eaten, and with 0 if 13 are. */
     private static void chargesOfOneCome() {
-        Edges.sentence("Terms", "to an eye come all charges of 1 or more");
+        Sentences.of("Terms", "to an eye come all charges of 1 or more");
         DeepiceWatch w = edgeOfLayers(12);
         Check.same("13: 12, 10, 8, 7, 6, 5, 4, 3, 2, 1", w.chargeAt(0, 0, 0, 19, 1), 1);
         Check.same("a pulse", w.pass(0, 0, 19, DOWN, 1, 1, 0), 1);
@@ -235,7 +235,7 @@ public final class LightEdgeTest {
 
     /** The other way, light from 20 comes 110 later, and that from 19 at 5 and 98. */
     private static void earliestComes() {
-        Edges.sentence("Terms", "when the earliest of them comes");
+        Sentences.of("Terms", "when the earliest of them comes");
         DeepiceWatch w = edgeOfLayers(12);
         w.pass(0, 0, 20, UP, 1, 1, 1000);
         Check.same("13: the second", w.pulseAt(0, 't'), 1103);
@@ -251,7 +251,7 @@ public final class LightEdgeTest {
     }
 
     private static void pulseFromOneOn() {
-        Edges.sentence("Terms", "An eye that is not dead has a pulse if the charge is 1 or more.");
+        Sentences.of("Terms", "An eye that is not dead has a pulse if the charge is 1 or more.");
         DeepiceWatch w = Watches.clearEyeAt(20, 10, 30);
         Check.same("12: a charge of 1", w.flash(-11, 4, 31, 1, 0), 1);
         Check.same("12: is kept", w.pulseAt(0, 'q'), 1);
@@ -266,7 +266,7 @@ public final class LightEdgeTest {
     }
 
     private static void deadEyesHaveNone() {
-        Edges.sentence("Terms", "An eye that is not dead has a pulse");
+        Sentences.of("Terms", "An eye that is not dead has a pulse");
         DeepiceWatch w = Watches.eyeAt(0, 0, 30);
         w.addEye(0, 31);
         w.setEye(0, 'd');
@@ -294,7 +294,7 @@ public final class LightEdgeTest {
     }
 
     private static void nextZ() {
-        Edges.sentence("Terms", "which, 1 at first, becomes z times 48271 modulo 2147483647 ahead of each");
+        Sentences.of("Terms", "which, 1 at first, becomes z times 48271 modulo 2147483647 ahead of each");
         DeepiceWatch w = Watches.eyeAt(0, 0, 30);
         Check.same("15: 1 at first", w.seed(1), 1);
         w.noise(1);
@@ -310,7 +310,7 @@ public final class LightEdgeTest {
 
     /** The greatest z is 1 below 0, so it becomes 48271 below the modulus, then 182605794 below it. */
     private static void nextZWrapsAround() {
-        Edges.sentence("Terms", "becomes z times 48271 modulo 2147483647");
+        Sentences.of("Terms", "becomes z times 48271 modulo 2147483647");
         DeepiceWatch w = Watches.eyeAt(0, 0, 30);
         w.seed(2147483646);
         w.noise(1);
@@ -331,7 +331,7 @@ public final class LightEdgeTest {
 
     /** Seeds by which z is 2092363224, a multiple of 24, then 14300000; and 2113272383, with a rest of 23, then 2999999. */
     private static void lotOfEye() {
-        Edges.sentence("Terms", "By noise a lot of eye and tick, each by the rest of z");
+        Sentences.of("Terms", "By noise a lot of eye and tick, each by the rest of z");
         DeepiceWatch w = Watches.grid();
         w.seed(1192768514);
         w.noise(1);
@@ -356,7 +356,7 @@ public final class LightEdgeTest {
     }
 
     private static void lotOfTick() {
-        Edges.sentence("Promise 14", "Makes noise: for each pulse the eye, then the tick, below 100000.");
+        Sentences.of("Promise 14", "Makes noise: for each pulse the eye, then the tick, below 100000.");
         DeepiceWatch w = Watches.grid();
         w.seed(1192768514);
         w.noise(1);
@@ -383,7 +383,7 @@ public final class LightEdgeTest {
     }
 
     private static void noiseOfDeadEyes() {
-        Edges.sentence("Terms", "is a pulse of charge 1, of a dead eye none");
+        Sentences.of("Terms", "is a pulse of charge 1, of a dead eye none");
         DeepiceWatch w = Watches.eyeAt(0, 0, 30);
         w.addEye(0, 30);
         w.setEye(1, 'd');
@@ -412,7 +412,7 @@ public final class LightEdgeTest {
     }
 
     private static void twoHundredPulses() {
-        Edges.sentence("Terms", "At most 200 pulses are kept; what comes then is lost.");
+        Sentences.of("Terms", "At most 200 pulses are kept; what comes then is lost.");
         DeepiceWatch w = with(198);
         w.setTrigger(9, 1);
         Check.same("12: room for two", w.flash(0, 0, 30, 1, 50), 2);
@@ -433,7 +433,7 @@ public final class LightEdgeTest {
     }
 
     private static void twoHundredOfPassers() {
-        Edges.sentence("Terms", "At most 200 pulses are kept");
+        Sentences.of("Terms", "At most 200 pulses are kept");
         DeepiceWatch w = with(199);
         Check.same("13: room for one", w.pass(0, 0, 30, DOWN, 1, 1, 0), 1);
         Check.same("13: no room", w.pass(0, 0, 30, DOWN, 1, 1, 0), 0);
@@ -443,7 +443,7 @@ public final class LightEdgeTest {
     }
 
     private static void twoHundredOfNoise() {
-        Edges.sentence("Terms", "what comes then is lost");
+        Sentences.of("Terms", "what comes then is lost");
         DeepiceWatch w = with(171);
         Check.same("14: room for 29", w.noise(30), 29);
         Check.same("19: full", w.pulses(), 200);

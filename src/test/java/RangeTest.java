@@ -48,12 +48,12 @@ public final class RangeTest {
         trialsOf();
         takeBack();
         keptAt();
-        Edges.end();
+        Sentences.end();
     }
 
     private static void of(int number, String thrown) {
         promise = number;
-        Edges.sentence("Promise " + number, thrown);
+        Sentences.of("Promise " + number, thrown);
     }
 
     /** The range is read from the document's words; due is what the call answers at the least and at the greatest. */
@@ -65,7 +65,7 @@ public final class RangeTest {
 
     private static void range(String words, int least, int most, Watches.Maker maker, OnNumber call,
             Object atLeast, Object atMost) {
-        Edges.sentence("Promise " + promise, words);
+        Sentences.of("Promise " + promise, words);
         String what = promise + ": " + words + ": ";
         Check.alike(what + least, call.on(maker.make(), least), atLeast);
         Check.alike(what + most, call.on(maker.make(), most), atMost);
@@ -77,7 +77,7 @@ public final class RangeTest {
 
     /** Each letter has its answer on a furnished watch; each other sign is refused. */
     private static void letters(String words, String letters, OnLetter call, Object... due) {
-        Edges.sentence("Promise " + promise, words);
+        Sentences.of("Promise " + promise, words);
         String what = promise + ": " + words + ": ";
         for (int i = 0; i < due.length; i++) {
             char letter = letters.charAt(i);
@@ -232,7 +232,7 @@ public final class RangeTest {
 
     /** All of them, from (4, 5, 7) off, where it is 1000 / 91. */
     private static void passEachStep() {
-        Edges.sentence("Promise 13", "25 times the step in x and 2, and 5 times that in y and 2, and that in z and 2");
+        Sentences.of("Promise 13", "25 times the step in x and 2, and 5 times that in y and 2, and that in z and 2");
         DeepiceWatch w = Watches.clearEyeAt(0, 0, 30);
         int step = 0;
         for (int x = -2; x <= 2; x++) {

@@ -53,11 +53,11 @@ public final class RefusalTest {
         meanChargeNone();
         documentedFirst();
         changesNothing();
-        Edges.end();
+        Sentences.end();
     }
 
     private static void of(int promise, String thrown) {
-        Edges.sentence("Promise " + promise, "Throws " + thrown);
+        Sentences.of("Promise " + promise, "Throws " + thrown);
     }
 
     private static void refused(String what, Class<? extends RuntimeException> due, Twins.Call call) {
@@ -403,7 +403,7 @@ public final class RefusalTest {
     // ---- all promises together
 
     private static void documentedFirst() {
-        Edges.sentence("Terms", "If several exceptions apply, the one that is documented first is thrown.");
+        Sentences.of("Terms", "If several exceptions apply, the one that is documented first is thrown.");
         Twins.refused("2: range, 6", ARGUMENT, Watches::fullOfStrings, w -> w.addString(0, 21));
         refused("4: string, range", INDEX, w -> w.addEye(3, 64));
         Twins.refused("4: string, 24", INDEX, Watches::fullOfEyes, w -> w.addEye(-1, 5));
@@ -437,7 +437,7 @@ public final class RefusalTest {
 
     /** One behind the other on one watch. */
     private static void changesNothing() {
-        Edges.sentence("Terms", "A method that throws an exception changes nothing.");
+        Sentences.of("Terms", "A method that throws an exception changes nothing.");
         DeepiceWatch w = Watches.fullOfLayers();
         Check.thrown("2", ARGUMENT, () -> w.addString(-21, 0));
         Check.thrown("3", INDEX, () -> w.setOuter(3, true));

@@ -23,11 +23,11 @@ public final class SkyEdgeTest {
         claimNamesTrials();
         noTrialsAtFirst();
         takeBackNone();
-        Edges.end();
+        Sentences.end();
     }
 
     private static void eightBins() {
-        Edges.sentence("Terms", "It has 8 bins");
+        Sentences.of("Terms", "It has 8 bins");
         for (int bin = 0; bin < 8; bin++) {
             DeepiceWatch w = Watches.cube();
             Watches.track(w, bin, 0);
@@ -42,7 +42,7 @@ public final class SkyEdgeTest {
     }
 
     private static void speedsNotBelowZero() {
-        Edges.sentence("Terms", "is in the bin of 4, 2 and 1 for a speed on x, y and z that is not below 0");
+        Sentences.of("Terms", "is in the bin of 4, 2 and 1 for a speed on x, y and z that is not below 0");
         int[] along = {6, 6, 7};
         int[] below = {2, 4, 6};
         for (int axis = 0; axis < 3; axis++) {
@@ -58,7 +58,7 @@ public final class SkyEdgeTest {
     }
 
     private static void tracksOfNowNotVetoed() {
-        Edges.sentence("Terms", "a track of the events of now that is not vetoed is in the bin");
+        Sentences.of("Terms", "a track of the events of now that is not vetoed is in the bin");
         DeepiceWatch w = Watches.cube();
         Watches.track(w, 7, 0);
         Check.same("32: one", w.look(7), 1);
@@ -86,7 +86,7 @@ public final class SkyEdgeTest {
     }
 
     private static void emptyBins() {
-        Edges.sentence("Promise 32", "Returns how many events are in it.");
+        Sentences.of("Promise 32", "Returns how many events are in it.");
         DeepiceWatch w = new DeepiceWatch();
         w.vote(1, 0);
         for (int bin = 0; bin < 8; bin++) {
@@ -100,7 +100,7 @@ public final class SkyEdgeTest {
     }
 
     private static void closedAtFirst() {
-        Edges.sentence("Terms", "The sky is closed at first");
+        Sentences.of("Terms", "The sky is closed at first");
         DeepiceWatch w = new DeepiceWatch();
         Check.thrown("32: closed", STATE, () -> w.look(0));
         Check.thrown("33: closed", STATE, () -> w.claim(0));
@@ -108,7 +108,7 @@ public final class SkyEdgeTest {
     }
 
     private static void closedWithTheDay() {
-        Edges.sentence("Terms", "and as a day is closed");
+        Sentences.of("Terms", "and as a day is closed");
         DeepiceWatch w = Watches.cube();
         Check.same("32: open", w.look(0), 0);
         for (int day = 0; day < 6; day++) {
@@ -132,7 +132,7 @@ public final class SkyEdgeTest {
     }
 
     private static void voteForMoreThanAgainst() {
-        Edges.sentence("Terms", "a vote opens it if more are for it than against");
+        Sentences.of("Terms", "a vote opens it if more are for it than against");
         int[][] votes = {{0, 0}, {1, 1}, {0, 1}, {98, 99}, {99, 99}, {0, 99}, {50, 50}};
         for (int[] vote : votes) {
             Check.same("31: " + vote[0] + " to " + vote[1], new DeepiceWatch().vote(vote[0], vote[1]), false);
@@ -147,7 +147,7 @@ public final class SkyEdgeTest {
     }
 
     private static void voteNeverCloses() {
-        Edges.sentence("Terms", "and never closes it");
+        Sentences.of("Terms", "and never closes it");
         DeepiceWatch w = new DeepiceWatch();
         w.vote(1, 0);
         Check.same("31: all against", w.vote(0, 99), true);
@@ -157,7 +157,7 @@ public final class SkyEdgeTest {
     }
 
     private static void eachLookIsATrial() {
-        Edges.sentence("Terms", "Each look at a bin is a trial.");
+        Sentences.of("Terms", "Each look at a bin is a trial.");
         DeepiceWatch w = Watches.cube();
         Check.same("36: none", w.trials(), 0);
         w.look(0);
@@ -175,7 +175,7 @@ public final class SkyEdgeTest {
     }
 
     private static void claimIsALook() {
-        Edges.sentence("Terms", "A claim is a look, too");
+        Sentences.of("Terms", "A claim is a look, too");
         DeepiceWatch w = Watches.cube();
         Check.same("33: of an empty bin", w.claim(0), false);
         Check.same("36: not made, but a trial", w.trials(), 1);
@@ -190,7 +190,7 @@ public final class SkyEdgeTest {
     }
 
     private static void claimOfTwo() {
-        Edges.sentence("Terms", "it is made if the bin has 2 events or more");
+        Sentences.of("Terms", "it is made if the bin has 2 events or more");
         DeepiceWatch w = Watches.cube();
         Check.same("33: none of none", w.claim(5), false);
         Watches.track(w, 5, 0);
@@ -204,7 +204,7 @@ public final class SkyEdgeTest {
     }
 
     private static void claimOfEightThirds() {
-        Edges.sentence("Terms", "and 8 times as many as it has are at least 3 times all events in bins");
+        Sentences.of("Terms", "and 8 times as many as it has are at least 3 times all events in bins");
         int[][] due = {{2, 5, 1}, {2, 6, 0}, {3, 7, 1}, {3, 8, 1}, {3, 9, 0}, {5, 13, 1}, {5, 14, 0}, {6, 16, 1},
             {6, 17, 0}, {24, 64, 1}, {24, 65, 0}};
         for (int[] share : due) {
@@ -232,7 +232,7 @@ public final class SkyEdgeTest {
     }
 
     private static void claimNamesTrials() {
-        Edges.sentence("Terms", "It names the trials by then.");
+        Sentences.of("Terms", "It names the trials by then.");
         DeepiceWatch w = Watches.cube();
         Watches.tracks(w, 6, 2, 0);
         Watches.tracks(w, 7, 2, 5000);
@@ -252,7 +252,7 @@ public final class SkyEdgeTest {
     }
 
     private static void noTrialsAtFirst() {
-        Edges.sentence("Promise 36", "Returns how many trials there were.");
+        Sentences.of("Promise 36", "Returns how many trials there were.");
         DeepiceWatch w = Watches.cube();
         Check.same("36: none at first", w.trials(), 0);
         w.vote(5, 0);
@@ -265,7 +265,7 @@ public final class SkyEdgeTest {
     }
 
     private static void takeBackNone() {
-        Edges.sentence("Promise 35", "Returns whether there was one.");
+        Sentences.of("Promise 35", "Returns whether there was one.");
         DeepiceWatch w = Watches.cube();
         for (int bin = 0; bin < 8; bin++) {
             Check.same("35: none", w.takeBack(bin), false);

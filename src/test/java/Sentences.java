@@ -8,19 +8,19 @@ import java.util.List;
 import java.util.Set;
 import java.util.TreeSet;
 
-/** Ties each sentence of the document that names a boundary case to the test of its own that EDGES.md lists. */
-final class Edges {
+/** Ties each sentence of the document to the test of its own that SENTENCES.md lists. */
+final class Sentences {
     private static final Path DOCUMENT = Path.of("../shared/DOC.md");
-    private static final Path LIST = Path.of("EDGES.md");
+    private static final Path LIST = Path.of("SENTENCES.md");
 
     private static final Set<String> told = new TreeSet<>();
     private static String running = "";
 
-    private Edges() {
+    private Sentences() {
     }
 
     /** Says that the test method now running is that of these words, which stand in that section. */
-    static void sentence(String where, String words) {
+    static void of(String where, String words) {
         String test = runningTest();
         running = test.substring(0, test.indexOf('.'));
         Check.holds(where + " does not say: " + words, section(where).contains(words));
@@ -36,18 +36,19 @@ final class Edges {
             }
         }
         for (String row : told) {
-            Check.holds("EDGES.md lacks: " + row, listed.contains(row));
+            Check.holds(LIST + " lacks: " + row, listed.contains(row));
         }
         for (String row : listed) {
-            Check.holds("EDGES.md lists what no test tells: " + row, told.contains(row));
+            Check.holds(LIST + " lists what no test tells: " + row, told.contains(row));
         }
         Check.end();
     }
 
+    /** The rows of the list; those of other tables in it have two cells. */
     static List<String> rows() {
         List<String> rows = new ArrayList<>();
         for (String line : read(LIST).split("\n")) {
-            if (line.startsWith("| Terms |") || line.startsWith("| Promise ") || line.startsWith("| What it is |")) {
+            if (line.startsWith("| ") && line.split(" \\| ").length > 2 && !line.startsWith("| Where |")) {
                 rows.add(line);
             }
         }
@@ -58,15 +59,28 @@ final class Edges {
         return read(DOCUMENT);
     }
 
-    /** A section of the document, with single blanks. */
+    /** The names of the document's sections, those of promises without what they are about. */
+    static List<String> sections() {
+        List<String> names = new ArrayList<>();
+        for (String line : document().split("\n")) {
+            if (line.startsWith("## ")) {
+                names.add(line.substring(3).replaceAll("(Promise \\d+):.*", "$1"));
+            }
+        }
+        return names;
+    }
+
+    /** A section of the document, with single blanks and without its name and the marks of its blocks. */
     static String section(String name) {
         String text = "\n" + document();
         int at = text.indexOf("\n## " + name + (name.startsWith("Promise") ? ":" : "\n"));
         if (at < 0) {
             return "";
         }
-        int end = text.indexOf("\n## ", at + 1);
-        return text.substring(at, end < 0 ? text.length() : end).replaceAll("\\s+", " ");
+        int begin = text.indexOf('\n', at + 1);
+        int end = text.indexOf("\n## ", begin);
+        String inside = text.substring(begin, end < 0 ? text.length() : end);
+        return inside.replaceAll("```[a-z]*", " ").replaceAll("\\s+", " ");
     }
 
     private static String read(Path path) {
